@@ -197,7 +197,7 @@ public final class TideGauges {
         }
         double v = Numbers.numberOf(bits, true);
         if (kind == LONG) {
-            return tell(Numbers.bitsOf(single ? (float) (long) (float) v : (double) (long) v, !single));
+            return tell(single ? Numbers.floatBits((float) (long) (float) v) : Numbers.doubleBits((double) (long) v));
         }
         if (!Numbers.haveRest(v, gauges.spans[place])) {
             return NO_NUMBER;
@@ -424,11 +424,10 @@ public final class TideGauges {
         }
 
         private static double sizeFrom(long bits, int fractionWidth, int bias) {
-            int exponent = (int) (bits >>> fractionWidth);
-            if (exponent > 2 * bias) {
+            if (bits >>> fractionWidth > 2L * bias) {
                 return greatest() * 2.0;
             }
-            return scaled((double) wholePart(bits, fractionWidth), powerOf(exponent, fractionWidth, bias));
+            return scaled((double) wholePart(bits, fractionWidth), powerOf(bits, fractionWidth, bias));
         }
 
         /** The number is its whole part times two to its power. */
@@ -438,8 +437,8 @@ public final class TideGauges {
             return bits < hidden ? fraction : fraction + hidden;
         }
 
-        private static int powerOf(int exponent, int fractionWidth, int bias) {
-            return Math.max(exponent, 1) - bias - fractionWidth;
+        private static int powerOf(long bits, int fractionWidth, int bias) {
+            return Math.max((int) (bits >>> fractionWidth), 1) - bias - fractionWidth;
         }
 
         private static long bitsOf(double v, boolean wide) {
@@ -499,7 +498,7 @@ public final class TideGauges {
             return isEndless(a) && isEndless(b) && a != b;
         }
 
-        /** Of -0.0 alone only a division tells the sign. */
+        /** Of a zero only a division tells the sign; among doubles it throws nothing, and 1.0 by 0.0 is a number. */
         private static boolean isNegative(double v) {
             return v < 0.0 || (v == 0.0 && 1.0 / v < 0.0);
         }
@@ -524,23 +523,23 @@ public final class TideGauges {
         private static double restOf(double x, double y) {
             double a = sizeOf(x);
             double b = sizeOf(y);
-            if (isEndless(b) || a < b) {
+            // x has an end, so that this is so too where y has none.
+            if (a < b) {
                 return x;
             }
             long aBits = sizeBits(a, DOUBLE_FRACTION, DOUBLE_BIAS);
             long bBits = sizeBits(b, DOUBLE_FRACTION, DOUBLE_BIAS);
-            int aPower = powerOf((int) (aBits >>> DOUBLE_FRACTION), DOUBLE_FRACTION, DOUBLE_BIAS);
-            int bPower = powerOf((int) (bBits >>> DOUBLE_FRACTION), DOUBLE_FRACTION, DOUBLE_BIAS);
-            int common = Math.min(aPower, bPower);
-            // b is at most a, so that b keeps within 53 bits where its power is the greater one.
-            long rest = wholeRest(wholePart(aBits, DOUBLE_FRACTION), aPower - common,
-                wholePart(bBits, DOUBLE_FRACTION) << (bPower - common));
-            double size = scaled((double) rest, common);
+            int power = powerOf(bBits, DOUBLE_FRACTION, DOUBLE_BIAS);
+            // As a is not below b, its power is not either.
+            int up = powerOf(aBits, DOUBLE_FRACTION, DOUBLE_BIAS) - power;
+            long rest = wholeRest(wholePart(aBits, DOUBLE_FRACTION), up, wholePart(bBits, DOUBLE_FRACTION));
+            double size = scaled((double) rest, power);
             return isNegative(x) ? -size : size;
         }
 
         /** The rest of a, moved up by some bits, by b. */
         private static long wholeRest(long a, int up, long b) {
+            // No caller asks for a rest by 0, but a divisor is looked at where it divides.
             if (b <= 0L) {
                 return a;
             }

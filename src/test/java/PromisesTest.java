@@ -334,6 +334,7 @@ public final class PromisesTest {
         tells("9 least", x, x.tide(0, true, 1, Integer.MIN_VALUE), bits(2097152.125 - 268435456.0));
         x.put(1, false, 1, bits(16777216.0f));
         tells("9 sum to even", x, x.tide(1, false, 1, 8), bits(16777216.0f));
+        tells("9 sum kept as rounded", x, x.tide(1, false, 1, 8), bits(16777216.0f));
         tells("9 sum rounded", x, x.tide(1, false, 1, 9), bits(16777218.0f));
         TideGauges y = holding(1.0);
         for (int place : WRONG_PLACES) {
@@ -356,6 +357,9 @@ public final class PromisesTest {
         tells("10 of none", x, x.sum(0, true, 0, 0), bits(0.0));
         tells("10 to the end", x, x.sum(0, true, 5, 2), bits(-1e30));
         tells("10 of none behind the end", x, x.sum(0, true, 7, 0), bits(0.0));
+        x = holding(16777216.0, 1.0, 1.0);
+        tells("10 in the width of doubles", x, x.sum(0, true, 0, 3), bits(16777218.0));
+        tells("10 in the width of floats", x, x.sum(1, false, 0, 3), bits(16777216.0f));
         x = holding(INF, 1.0, INF, -INF, Double.MAX_VALUE, Double.MAX_VALUE, -INF);
         tells("10 endless", x, x.sum(0, true, 0, 3), bits(INF));
         Due.is("10 meet", NO_NUMBER, x.sum(0, true, 0, 4));
@@ -516,6 +520,8 @@ public final class PromisesTest {
         }
         Due.is("14 for another kind", STORE, x.hang(0, 0, 0));
         Due.is("14 the other rack stays", 1, x.take(1, 3, STEP, 5));
+        Due.is("14 the other rack anew", 1, x.rack(1, STEP));
+        Due.is("14 the other rack is bare", 0, x.take(1, 3, STEP, 5));
         Due.is("14 racks", 3, x.count(2));
     }
 
