@@ -8,6 +8,7 @@ import java.nio.file.Path;
 import java.util.Arrays;
 import java.util.Set;
 import java.util.TreeSet;
+import java.util.regex.Pattern;
 
 /** The public face, and the rules of LANGUAGE.md that can be seen in the class and its text. */
 public final class FaceTest {
@@ -19,9 +20,14 @@ public final class FaceTest {
         "public long round(long, int)", "public int gauge(int, int, long)", "public int read(int, long, boolean)",
         "public int rack(int, int)", "public int hang(int, int, int)", "public int take(int, int, int, int)",
         "public long told()", "public int count(int)"};
-    private static final String[] NOT_AT_HAND = {"\\bcatch\\b", "\\btry\\b", "\\bthrow\\b", "\\bfinally\\b",
-        "\\bDouble\\.", "\\bFloat\\.", "\\bStrictMath\\b", "\\bSystem\\b", "\\bassert\\b", "\\bsynchronized\\b",
-        "->", "::", "Exact\\(", "\\bpackage\\b", "\\bprotected\\b", "\\bObject\\b"};
+    private static final String[] NOT_AT_HAND = {"\\bfinally\\b", "\\bassert\\b", "\\bsynchronized\\b",
+        "\\bpackage\\b", "\\bprotected\\b", "\\bDouble\\b", "\\bFloat\\b", "\\bStrictMath\\b", "\\bThread\\b",
+        "\\bSystem\\.(?!arraycopy\\b)", "::", "Exact\\(",
+        "catch\\s*\\([^)]*(NullPointer|ArrayIndex|ClassCast|NegativeArray|ArrayStore|Throwable|\\bException\\b)"};
+    private static final Set<String> IMPORTS = Set.of("import java.util.Arrays;", "import java.util.ArrayList;",
+        "import java.util.List;", "import java.util.Iterator;", "import java.util.NoSuchElementException;");
+    private static final Set<Class<?>> CONSTANTS = Set.of(int.class, long.class, boolean.class, char.class,
+        String.class, int[].class, long[].class, char[].class, byte[].class);
 
     private FaceTest() {
     }
@@ -75,20 +81,21 @@ public final class FaceTest {
     private static void staticFields(Class<?> type) {
         for (Field field : type.getDeclaredFields()) {
             if (Modifier.isStatic(field.getModifiers())) {
+                Class<?> held = field.getType().isArray() ? field.getType().getComponentType() : field.getType();
                 holds(field + " is a constant of a kind that is fine", Modifier.isFinal(field.getModifiers())
-                    && (field.getType() == int.class || field.getType() == long.class));
+                    && (CONSTANTS.contains(field.getType()) || held.isEnum()));
             }
         }
     }
 
     private static void text(String text) {
+        String code = text.replaceAll("(?s)/\\*.*?\\*/", " ").replaceAll("//[^\n]*", " ");
         for (String word : NOT_AT_HAND) {
-            holds("the text is without " + word, !java.util.regex.Pattern.compile(word).matcher(text).find());
+            holds("the text is without " + word, !Pattern.compile(word).matcher(code).find());
         }
-        for (String line : text.split("\n")) {
-            holds("only what is listed is imported: " + line,
-                !line.startsWith("import") || line.equals("import java.util.Arrays;"));
-            holds("characters of plain text: " + line, line.chars().allMatch(c -> c >= 32 && c < 127));
+        for (String line : code.split("\n")) {
+            holds("only what is listed is imported: " + line, !line.startsWith("import") || IMPORTS.contains(line));
+            holds("no lambda: " + line, !line.contains("->") || line.matches("\\s*(case|default)\\b.*"));
         }
     }
 }

@@ -2,8 +2,12 @@ import java.util.Random;
 
 /** Long runs of calls beside a model that leaves all it can to the Java machine and the Java library. */
 public final class ModelTest {
-    private static final int RUNS = 3000;
-    private static final int CALLS = 512;
+    private static final int RUNS = 6000;
+    // Two calls each, as told() is asked after every call: an object is promised for 512.
+    private static final int STEPS = 256;
+    private static final int PAIRS = 200000;
+    // Eight calls each, and two that make the rows.
+    private static final int PAIRS_OF_AN_OBJECT = 50;
     private static final long SEED = 20261116L;
 
     private ModelTest() {
@@ -13,39 +17,46 @@ public final class ModelTest {
         Random random = new Random(SEED);
         for (int run = 0; run < RUNS && !Due.anyWrong(); run++) {
             Pair pair = new Pair(random, run);
-            for (int k = 0; k < CALLS && !Due.anyWrong(); k++) {
+            for (int k = 0; k < STEPS && !Due.anyWrong(); k++) {
                 pair.step();
             }
         }
-        restsAndSteps(random);
+        restsOfManyPairs(random);
         Due.end();
     }
 
     /** Pairs of numbers of all sizes, more than the runs reach. */
-    private static void restsAndSteps(Random random) {
-        TideGauges x = new TideGauges();
-        x.row(0, true, 2);
-        x.row(1, false, 2);
-        for (int k = 0; k < 200000 && !Due.anyWrong(); k++) {
-            double a = Inputs.finite(random);
-            double b = Inputs.finite(random);
-            if (b == 0.0) {
-                continue;
+    private static void restsOfManyPairs(Random random) {
+        for (int k = 0; k < PAIRS / PAIRS_OF_AN_OBJECT && !Due.anyWrong(); k++) {
+            TideGauges x = new TideGauges();
+            x.row(0, true, 2);
+            x.row(1, false, 2);
+            for (int pair = 0; pair < PAIRS_OF_AN_OBJECT; pair++) {
+                restOfDoubles(x, Inputs.finite(random), Inputs.finite(random));
+                restOfFloats(x, Float.intBitsToFloat((int) Inputs.floatBits(random)),
+                    Float.intBitsToFloat((int) Inputs.floatBits(random)));
             }
-            x.put(0, true, 0, Double.doubleToRawLongBits(a));
-            x.put(0, true, 1, Double.doubleToRawLongBits(b));
-            Due.is("rest of " + a + " by " + b, 1, x.rest(0, true, 0, 1));
-            Due.is("rest of " + a + " by " + b, Double.doubleToRawLongBits(a % b), x.told());
-            float c = Float.intBitsToFloat((int) Inputs.floatBits(random));
-            float d = Float.intBitsToFloat((int) Inputs.floatBits(random));
-            if (Float.isNaN(c % d)) {
-                continue;
-            }
-            x.put(1, false, 0, Float.floatToRawIntBits(c));
-            x.put(1, false, 1, Float.floatToRawIntBits(d));
-            Due.is("rest of " + c + " by " + d, 1, x.rest(1, false, 0, 1));
-            Due.is("rest of " + c + " by " + d, Float.floatToRawIntBits(c % d), x.told());
         }
+    }
+
+    private static void restOfDoubles(TideGauges x, double a, double b) {
+        if (b == 0.0) {
+            return;
+        }
+        x.put(0, true, 0, Double.doubleToRawLongBits(a));
+        x.put(0, true, 1, Double.doubleToRawLongBits(b));
+        Due.is("rest of " + a + " by " + b, 1, x.rest(0, true, 0, 1));
+        Due.is("rest of " + a + " by " + b, Double.doubleToRawLongBits(a % b), x.told());
+    }
+
+    private static void restOfFloats(TideGauges x, float a, float b) {
+        if (Float.isNaN(a % b)) {
+            return;
+        }
+        x.put(1, false, 0, Float.floatToRawIntBits(a));
+        x.put(1, false, 1, Float.floatToRawIntBits(b));
+        Due.is("rest of floats " + a + " by " + b, 1, x.rest(1, false, 0, 1));
+        Due.is("rest of floats " + a + " by " + b, Float.floatToRawIntBits(a % b), x.told());
     }
 
     /** The class and the model, asked the same. */

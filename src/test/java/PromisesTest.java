@@ -239,8 +239,8 @@ public final class PromisesTest {
     private static void rest() {
         double[] all = {0.0, -0.0, 7.5, -7.5, 2.0, -2.0, 0.1, Double.MIN_VALUE, -Double.MIN_NORMAL,
             Double.MAX_VALUE, INF, -INF};
-        TideGauges x = holding(all);
         for (int i = 0; i < all.length; i++) {
+            TideGauges x = holding(all);
             for (int j = 0; j < all.length; j++) {
                 restOfTwo(x, all, i, j);
             }
