@@ -459,9 +459,6 @@ public final class TideGauges {
         private static long sizeBits(double size, int fractionWidth, int bias) {
             boolean small = size < 1.0;
             double left = small ? scaled(size, bias - 1) : size;
-            if (left < 1.0) {
-                return (long) scaled(left, fractionWidth);
-            }
             long exponent = small ? 1L : bias;
             for (int step = 512; step > 0; step >>= 1) {
                 double power = scaled(1.0, step);
@@ -470,6 +467,7 @@ public final class TideGauges {
                     exponent += step;
                 }
             }
+            // Where there is no hidden bit in it, taking it off turns the exponent of 1 into the 0 that is due.
             long hidden = 1L << fractionWidth;
             return (exponent << fractionWidth) + (long) scaled(left, fractionWidth) - hidden;
         }

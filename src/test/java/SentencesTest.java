@@ -64,6 +64,8 @@ public final class SentencesTest {
     private static void bits() {
         doublesAreTheir64Bits();
         floatsAreTheLowest32Bits();
+        doublesOfEveryPower();
+        floatsOfEveryPower();
         bitsBesideThoseOfNoNumber();
         noNumberEverIsNone();
     }
@@ -427,6 +429,33 @@ public final class SentencesTest {
         for (int bit = 0; bit < 32; bit++) {
             Due.is("put of bit " + bit, 1, x.put(0, false, 0, 1L << bit));
             tells("get of bit " + bit, x, x.get(0, false, 0), 1 << bit);
+        }
+    }
+
+    private static void doublesOfEveryPower() {
+        for (long power = 0; power < 2047; power++) {
+            TideGauges x = wide(0.0);
+            for (long fraction : new long[] {0L, 1L, 0x8000000000000L, 0xFFFFFFFFFFFFFL}) {
+                long bits = (power << 52) | fraction;
+                Due.is("put " + bits, 1, x.put(0, true, 0, bits));
+                tells("get " + bits, x, x.get(0, true, 0), bits);
+                Due.is("put below 0 " + bits, 1, x.put(0, true, 0, bits | Long.MIN_VALUE));
+                tells("get below 0 " + bits, x, x.get(0, true, 0), bits | Long.MIN_VALUE);
+            }
+        }
+    }
+
+    private static void floatsOfEveryPower() {
+        for (int power = 0; power < 255; power++) {
+            TideGauges x = narrow(0.0f);
+            for (int fraction : new int[] {0, 1, 0x400000, 0x7FFFFF}) {
+                int bits = (power << 23) | fraction;
+                Due.is("put " + bits, 1, x.put(0, false, 0, bits));
+                tells("get " + bits, x, x.get(0, false, 0), bits);
+                tells("as a double " + bits, x, x.turn(0, false, 0, 6), bits((double) Float.intBitsToFloat(bits)));
+                Due.is("put below 0 " + bits, 1, x.put(0, false, 0, bits | 0x80000000L));
+                tells("get below 0 " + bits, x, x.get(0, false, 0), bits | Integer.MIN_VALUE);
+            }
         }
     }
 
@@ -1300,9 +1329,10 @@ public final class SentencesTest {
             x.row(1, wide, 0);
             x.put(0, wide, 0, 5L);
             x.put(0, wide, 1, 6L);
-            for (int from = 0; from <= 2; from++) {
+            // Of no ITEMS none is missing, wherever they begin.
+            for (int from : new int[] {0, 1, 2, 3, -1, Integer.MIN_VALUE, Integer.MAX_VALUE}) {
                 x.get(0, wide, 0);
-                tells("of 0 ITEMS", x, x.sum(0, wide, from, 0), 0L);
+                tells("of 0 ITEMS from " + from, x, x.sum(0, wide, from, 0), 0L);
             }
             x.get(0, wide, 0);
             tells("of an empty ROW", x, x.sum(1, wide, 0, 0), 0L);
@@ -1662,8 +1692,10 @@ public final class SentencesTest {
         Due.is("told after clear", latest, x.told());
         Due.is("put", 1, x.put(1, true, 0, 99L));
         Due.is("told after put", latest, x.told());
-        Due.is("round", 99L, x.round(99L, 9));
-        Due.is("told after round", latest, x.told());
+        for (int how = -1; how < 7; how++) {
+            x.round(99L, how);
+            Due.is("told after round " + how, latest, x.told());
+        }
         Due.is("gauge", 1, x.gauge(0, STEP, bits(1.0)));
         Due.is("told after gauge", latest, x.told());
         Due.is("rack", 1, x.rack(0, STEP));
